@@ -206,12 +206,8 @@ public final class Pulsemesh {
         if (rows < 1 || rows > ALL_LINES || columns < 1 || columns > ALL_LINES) {
             throw new IllegalArgumentException("a set of rows or columns is 1 to 31");
         }
-        if (cells.crossKnown(rows, columns)) {
-            return NONE;
-        }
         tried.measure(told);
-        tried.lay(rows, columns);
-        return tried.beatsInAll;
+        return beatsOn(rows, columns);
     }
 
     public int best(int what) throws IllegalArgumentException {
@@ -341,6 +337,15 @@ public final class Pulsemesh {
         }
     }
 
+    /** BEATS of that LAYOUT, or NONE; needs tried to be measured, as findBest() does too. */
+    private int beatsOn(int rows, int columns) {
+        if (cells.crossKnown(rows, columns)) {
+            return NONE;
+        }
+        tried.lay(rows, columns);
+        return tried.beatsInAll;
+    }
+
     private boolean isAllSound() {
         return isBestSound() && cells.areKnownBroken() && doUsesAddUp() && work.isUnfinished();
     }
@@ -349,15 +354,11 @@ public final class Pulsemesh {
         if (!chosen.isEmpty() && cells.crossKnown(chosen.rows, chosen.columns)) {
             return false;
         }
-        tried.measure(told);
         for (int rows = 1; rows <= ALL_LINES; rows++) {
-            int knownColumns = cells.knownColumns(rows);
             for (int columns = 1; columns <= ALL_LINES; columns++) {
-                if ((columns & knownColumns) == 0) {
-                    tried.lay(rows, columns);
-                    if (chosen.isEmpty() || tried.beatsInAll < chosen.beatsInAll) {
-                        return false;
-                    }
+                int beats = beatsOn(rows, columns);
+                if (beats != NONE && (chosen.isEmpty() || beats < chosen.beatsInAll)) {
+                    return false;
                 }
             }
         }

@@ -150,8 +150,9 @@ public final class PromisesTest {
         x.left(1, 0, 1);
         x.left(1, 0, 0);
         x.top(5, 7, 9);
+        x.top(3, 0, -2);
         x.checked(true);
-        Due.same("shape tells how many were not 0, without the sums", x.shape(8, 6, 8), 3);
+        Due.same("shape tells how many were not 0, without the sums", x.shape(8, 6, 8), 4);
         Due.same("operands are 0 then, of A", x.left(7, 5, 0), 0);
         Due.same("operands are 0 then, of B", x.top(5, 7, 0), 0);
         Due.same("it stays checked", x.mesh(4), 1);
@@ -456,6 +457,9 @@ public final class PromisesTest {
         dueBeyondMending("two that hide each other in their row", new int[][] {{0, 0, 1}, {0, 1, -1}});
         dueBeyondMending("two that hide each other in their column", new int[][] {{0, 1, 1}, {2, 1, 1}});
         dueBeyondMending("two askew", new int[][] {{0, 0, 1}, {1, 1, 1}});
+        // Just one row is wrong, or one column, but not both; a value for one place would set two lines right.
+        dueBeyondMending("one row, three columns", new int[][] {{0, 0, 1}, {0, 1, -1}, {0, 2, 1}});
+        dueBeyondMending("three rows, one column", new int[][] {{0, 0, 1}, {1, 0, -1}, {2, 0, 1}});
         // Row 1 and column 1 alone are wrong, by unlike sums: no value of (1, 1) mends both.
         dueBeyondMending("unlike sums", new int[][] {{1, 0, 2}, {2, 0, 2}, {2, 1, 3}, {2, 2, 5}});
         Pulsemesh x = twoByTwoDone(true);
@@ -521,6 +525,9 @@ public final class PromisesTest {
         x.start();
         x.beat(300);
         dueResults("skipped ones are nought", x, new int[][] {{0, 0, 20}, {1, 0, 0}});
+        tellLeft(x, new int[][] {{1, 1, 0, 1}, {1, 1, 0, 1}});
+        tellTop(x, new int[][] {{0, 0, 0}, {1, 1, 1}, {1, 1, 1}, {1, 1, 1}});
+        Due.same("t 0 for B, t 2 for A", x.mesh(6), 5);
         x.kind(1);
         Due.same("none is skipped by kind 1", x.mesh(6), 0);
         Due.same("four steps by kind 1", x.mesh(5), 4);
@@ -591,6 +598,18 @@ public final class PromisesTest {
         x.beat(4);
         Due.same("use of the third column", x.ofCell(0, 2, 1), 2);
         Due.same("use of the fourth column", x.ofCell(0, 3, 1), 1);
+        x.shape(7, 1, 1);
+        tellLeft(x, new int[][] {{1}, {2}, {3}, {4}, {5}, {6}, {7}});
+        x.kind(2);
+        x.top(0, 0, 5);
+        Due.same("four rows, then three", x.start(), 9);
+        x.beat(5);
+        Due.same("the third row works", x.ofCell(2, 0, 2), -999);
+        Due.same("the fourth row rests", x.ofCell(3, 0, 2), 0);
+        x.beat(4);
+        dueResults("four rows, then three", x, new int[][] {{1}, {2}, {3}, {4}, {5}, {5}, {5}});
+        Due.same("use of the third row", x.ofCell(2, 0, 1), 2);
+        Due.same("use of the fourth row", x.ofCell(3, 0, 1), 1);
     }
 
     private static void promise15Result() {
@@ -689,6 +708,10 @@ public final class PromisesTest {
         x.kind(2);
         dueBest("of two steps", x, 12, 15, 1, 2, 20);
         x.kind(0);
+        x.shape(8, 1, 8);
+        x.checked(true);
+        dueBest("9 rows and columns need all of the mesh", x, 36, 31, 31, 4, 36);
+        x.checked(false);
         x.shape(3, 1, 3);
         x.broken(1, 1, true);
         x.test();
