@@ -367,7 +367,8 @@ final class Model {
         require(within(row, 0, 4), "IndexOutOfBoundsException");
         String text = "";
         for (int column = 0; column < 5; column++) {
-            boolean isLaid = run != null && (run.layout.rows >> row) % 2 == 1 && (run.layout.columns >> column) % 2 == 1;
+            boolean isLaid = run != null && has(membersOf(run.layout.rows), row)
+                    && has(membersOf(run.layout.columns), column);
             text += known[row][column] ? "x" : broken[row][column] ? "?" : isLaid ? "o" : ".";
         }
         return text;

@@ -2,7 +2,8 @@
 public final class ModelTest {
     private static final int RUNS = 120;
     private static final int CALLS = 512;
-    private static final int[] FAR = {Integer.MIN_VALUE, Integer.MAX_VALUE, -1, 5, 8, 9, 10, 16, 31, 32, 300, 301, 1000};
+    private static final int[] FAR = {
+        Integer.MIN_VALUE, Integer.MAX_VALUE, -1, 5, 8, 9, 10, 16, 31, 32, 300, 301, 1000};
 
     private long state;
     private Pulsemesh x;
