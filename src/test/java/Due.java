@@ -2,6 +2,8 @@
 final class Due {
     private static int looked = 0;
     private static int wrong = 0;
+    private static int lookedAhead = 0;
+    private static String words = "";
 
     private Due() {
     }
@@ -10,11 +12,31 @@ final class Due {
         Object answer();
     }
 
+    /** From here on what is looked at is due by those words, which have to stand in that part of the document. */
+    static void by(String heading, String quoted) {
+        closeWords();
+        words = heading + ", \"" + quoted + "\": ";
+        if (!Doc.quote(heading, quoted)) {
+            wrong++;
+            System.out.println(words + "the document does not say that there");
+        }
+    }
+
+    /** Each sentence that was quoted has to be looked at by itself. */
+    private static void closeWords() {
+        if (!words.isEmpty() && looked == lookedAhead) {
+            wrong++;
+            System.out.println(words + "nothing was looked at");
+        }
+        lookedAhead = looked;
+        words = "";
+    }
+
     static void same(String what, Object got, Object want) {
         looked++;
         if (!want.equals(got)) {
             wrong++;
-            System.out.println(what + " answered " + got + ", due is " + want);
+            System.out.println(words + what + " answered " + got + ", due is " + want);
         }
     }
 
@@ -25,7 +47,7 @@ final class Due {
         same(what + " leaves the digest", x.digest(), before);
     }
 
-    private static String thrownBy(Call call) {
+    static String thrownBy(Call call) {
         try {
             return "nothing, but answers " + call.answer();
         } catch (RuntimeException e) {
@@ -34,6 +56,7 @@ final class Due {
     }
 
     static void end(String test) {
+        closeWords();
         System.out.println(test + ": " + looked + " answers looked at, " + wrong + " not as due");
         if (looked == 0 || wrong != 0) {
             System.exit(1);

@@ -1,7 +1,8 @@
 /** Long runs of calls, made by a fixed row of numbers, on a Pulsemesh and on its Model: all answers are the same. */
 public final class ModelTest {
-    private static final int RUNS = 120;
-    private static final int CALLS = 512;
+    private static final int RUNS = 150;
+    // With the digests and isSound between them these are 510: an object is used for 512 calls.
+    private static final int CALLS = 408;
     private static final int[] FAR = {
         Integer.MIN_VALUE, Integer.MAX_VALUE, -1, 5, 8, 9, 10, 16, 31, 32, 300, 301, 1000};
 

@@ -1,9 +1,5 @@
 /** Each promise of the document by itself: ordinary inputs, the edges that it names, and wrong inputs. */
 public final class PromisesTest {
-    private static final Class<IndexOutOfBoundsException> NO_PLACE = IndexOutOfBoundsException.class;
-    private static final Class<IllegalArgumentException> NO_VALUE = IllegalArgumentException.class;
-    private static final Class<IllegalStateException> NOT_NOW = IllegalStateException.class;
-
     public static void main(String[] args) {
         promise1NewObject();
         promise2Shape();
@@ -34,95 +30,11 @@ public final class PromisesTest {
         Due.end("PromisesTest");
     }
 
-    // ---- helpers
-
-    private static Pulsemesh shaped(int r, int k, int c) {
-        Pulsemesh x = new Pulsemesh();
-        x.shape(r, k, c);
-        return x;
-    }
-
-    private static void tellLeft(Pulsemesh x, int[][] a) {
-        for (int i = 0; i < a.length; i++) {
-            for (int t = 0; t < a[i].length; t++) {
-                x.left(i, t, a[i][t]);
-            }
-        }
-    }
-
-    private static void tellTop(Pulsemesh x, int[][] b) {
-        for (int t = 0; t < b.length; t++) {
-            for (int j = 0; j < b[t].length; j++) {
-                x.top(t, j, b[t][j]);
-            }
-        }
-    }
-
-    /** A of 1 2, 3 4 and B of 5 6, 7 8: the results are 19 22, 43 50. */
-    private static Pulsemesh twoByTwo() {
-        Pulsemesh x = new Pulsemesh();
-        tellLeft(x, new int[][] {{1, 2}, {3, 4}});
-        tellTop(x, new int[][] {{5, 6}, {7, 8}});
-        return x;
-    }
-
-    private static Pulsemesh twoByTwoDone(boolean isChecked) {
-        Pulsemesh x = twoByTwo();
-        x.checked(isChecked);
-        x.start();
-        x.beat(300);
-        return x;
-    }
-
-    private static void dueMesh(String when, Pulsemesh x, int... wants) {
-        for (int what = 0; what < wants.length; what++) {
-            Due.same(when + ": mesh(" + what + ")", x.mesh(what), wants[what]);
-        }
-    }
-
-    private static void dueBest(String when, Pulsemesh x, int... wants) {
-        for (int what = 0; what < wants.length; what++) {
-            Due.same(when + ": best(" + what + ")", x.best(what), wants[what]);
-        }
-    }
-
-    private static void dueResults(String when, Pulsemesh x, int[][] wants) {
-        Due.same(when + ": rows of results", x.mesh(14), wants.length);
-        Due.same(when + ": columns of results", x.mesh(15), wants[0].length);
-        for (int i = 0; i < wants.length; i++) {
-            for (int j = 0; j < wants[i].length; j++) {
-                Due.same(when + ": result(" + i + ", " + j + ")", x.result(i, j), wants[i][j]);
-            }
-        }
-    }
-
-    private static void duePlain(String when, Pulsemesh x, int[][] wants) {
-        for (int i = 0; i < wants.length; i++) {
-            for (int j = 0; j < wants[i].length; j++) {
-                Due.same(when + ": plain(" + i + ", " + j + ")", x.plain(i, j), wants[i][j]);
-            }
-        }
-        Due.refused(x, when + ": plain of a row more", NO_PLACE, () -> x.plain(wants.length, 0));
-        Due.refused(x, when + ": plain of a column more", NO_PLACE, () -> x.plain(0, wants[0].length));
-    }
-
-    private static void dueRows(String when, Pulsemesh x, String... wants) {
-        for (int row = 0; row < wants.length; row++) {
-            Due.same(when + ": row(" + row + ")", x.row(row), wants[row]);
-        }
-    }
-
-    private static void breakAll(Pulsemesh x) {
-        for (int cell = 0; cell < 25; cell++) {
-            x.broken(cell / 5, cell % 5, true);
-        }
-    }
-
     // ---- the promises
 
     private static void promise1NewObject() {
         Pulsemesh x = new Pulsemesh();
-        dueMesh("new", x, 2, 2, 2, 0, 0, 1, 1, 0, 0, 0, 0, 0, 0, -1, 0, 0);
+        Meshes.dueMesh("new", x, 2, 2, 2, 0, 0, 1, 1, 0, 0, 0, 0, 0, 0, -1, 0, 0);
         for (int cell = 0; cell < 25; cell++) {
             int row = cell / 5;
             int column = cell % 5;
@@ -131,13 +43,13 @@ public final class PromisesTest {
             Due.same("new: sum of cell " + cell, x.ofCell(row, column, 2), 0);
             Due.same("new: step of cell " + cell, x.ofCell(row, column, 3), -1);
         }
-        dueRows("new", x, ".....", ".....", ".....", ".....", ".....");
-        dueBest("new", x, 4, 3, 3, 1, 4);
-        duePlain("new", x, new int[][] {{0, 0}, {0, 0}});
+        Meshes.dueRows("new", x, ".....", ".....", ".....", ".....", ".....");
+        Meshes.dueBest("new", x, 4, 3, 3, 1, 4);
+        Meshes.duePlain("new", x, new int[][] {{0, 0}, {0, 0}});
         Due.same("new: saved()", x.saved(), 1);
         Due.same("new: isSound()", x.isSound(), true);
-        Due.refused(x, "new: result", NO_PLACE, () -> x.result(0, 0));
-        Pulsemesh other = twoByTwo();
+        Due.refused(x, "new: result", Meshes.NO_PLACE, () -> x.result(0, 0));
+        Pulsemesh other = Meshes.twoByTwo();
         other.broken(4, 4, true);
         Due.same("an object knows nothing of another one", x.digest(), new Pulsemesh().digest());
     }
@@ -157,58 +69,58 @@ public final class PromisesTest {
         Due.same("operands are 0 then, of B", x.top(5, 7, 0), 0);
         Due.same("it stays checked", x.mesh(4), 1);
         Due.same("shape(1, 1, 1)", x.shape(1, 1, 1), 0);
-        dueMesh("smallest shape", x, 1, 1, 1);
+        Meshes.dueMesh("smallest shape", x, 1, 1, 1);
         x.shape(3, 4, 5);
-        dueMesh("r, k and c in this order", x, 3, 4, 5);
+        Meshes.dueMesh("r, k and c in this order", x, 3, 4, 5);
         x.kind(2);
         x.shape(2, 1, 2);
         Due.same("the kind stays", x.mesh(3), 2);
-        Due.refused(x, "r of 0", NO_VALUE, () -> x.shape(0, 1, 1));
-        Due.refused(x, "r of 9", NO_VALUE, () -> x.shape(9, 1, 1));
-        Due.refused(x, "k of 0", NO_VALUE, () -> x.shape(1, 0, 1));
-        Due.refused(x, "k of 7", NO_VALUE, () -> x.shape(1, 7, 1));
-        Due.refused(x, "c of 0", NO_VALUE, () -> x.shape(1, 1, 0));
-        Due.refused(x, "c of 9", NO_VALUE, () -> x.shape(1, 1, 9));
-        Due.refused(x, "the least of all", NO_VALUE, () -> x.shape(Integer.MIN_VALUE, -1, -1));
-        Due.refused(x, "the greatest of all", NO_VALUE, () -> x.shape(1, Integer.MAX_VALUE, 1));
+        Due.refused(x, "r of 0", Meshes.NO_VALUE, () -> x.shape(0, 1, 1));
+        Due.refused(x, "r of 9", Meshes.NO_VALUE, () -> x.shape(9, 1, 1));
+        Due.refused(x, "k of 0", Meshes.NO_VALUE, () -> x.shape(1, 0, 1));
+        Due.refused(x, "k of 7", Meshes.NO_VALUE, () -> x.shape(1, 7, 1));
+        Due.refused(x, "c of 0", Meshes.NO_VALUE, () -> x.shape(1, 1, 0));
+        Due.refused(x, "c of 9", Meshes.NO_VALUE, () -> x.shape(1, 1, 9));
+        Due.refused(x, "the least of all", Meshes.NO_VALUE, () -> x.shape(Integer.MIN_VALUE, -1, -1));
+        Due.refused(x, "the greatest of all", Meshes.NO_VALUE, () -> x.shape(1, Integer.MAX_VALUE, 1));
     }
 
     private static void promise3Left() {
-        Pulsemesh x = shaped(3, 2, 4);
+        Pulsemesh x = Meshes.shaped(3, 2, 4);
         Due.same("left ahead", x.left(2, 1, 9), 0);
         Due.same("left then", x.left(2, 1, -9), 9);
         Due.same("left of -9", x.left(2, 1, 0), -9);
         Due.same("B has another one there", x.top(1, 3, 5), 0);
         Due.same("A has not that of B", x.left(1, 1, 0), 0);
-        Due.refused(x, "left of row -1", NO_PLACE, () -> x.left(-1, 0, 0));
-        Due.refused(x, "left of row r", NO_PLACE, () -> x.left(3, 0, 0));
-        Due.refused(x, "left of column -1", NO_PLACE, () -> x.left(0, -1, 0));
-        Due.refused(x, "left of column k", NO_PLACE, () -> x.left(0, 2, 0));
-        Due.refused(x, "left of 10", NO_VALUE, () -> x.left(0, 0, 10));
-        Due.refused(x, "left of -10", NO_VALUE, () -> x.left(0, 0, -10));
-        Due.refused(x, "left of both: the place is named first", NO_PLACE, () -> x.left(3, 0, 10));
-        Due.refused(x, "left far out", NO_PLACE, () -> x.left(Integer.MAX_VALUE, Integer.MIN_VALUE, 0));
+        Due.refused(x, "left of row -1", Meshes.NO_PLACE, () -> x.left(-1, 0, 0));
+        Due.refused(x, "left of row r", Meshes.NO_PLACE, () -> x.left(3, 0, 0));
+        Due.refused(x, "left of column -1", Meshes.NO_PLACE, () -> x.left(0, -1, 0));
+        Due.refused(x, "left of column k", Meshes.NO_PLACE, () -> x.left(0, 2, 0));
+        Due.refused(x, "left of 10", Meshes.NO_VALUE, () -> x.left(0, 0, 10));
+        Due.refused(x, "left of -10", Meshes.NO_VALUE, () -> x.left(0, 0, -10));
+        Due.refused(x, "left of both: the place is named first", Meshes.NO_PLACE, () -> x.left(3, 0, 10));
+        Due.refused(x, "left far out", Meshes.NO_PLACE, () -> x.left(Integer.MAX_VALUE, Integer.MIN_VALUE, 0));
         x.checked(true);
-        Due.refused(x, "left of the row of sums", NO_PLACE, () -> x.left(3, 0, 0));
+        Due.refused(x, "left of the row of sums", Meshes.NO_PLACE, () -> x.left(3, 0, 0));
     }
 
     private static void promise4Top() {
-        Pulsemesh x = shaped(4, 2, 3);
+        Pulsemesh x = Meshes.shaped(4, 2, 3);
         Due.same("top ahead", x.top(1, 2, 9), 0);
         Due.same("top then", x.top(1, 2, -9), 9);
         Due.same("top of -9", x.top(1, 2, 0), -9);
         Due.same("A has another one there", x.left(1, 1, 5), 0);
         Due.same("B has not that of A", x.top(1, 1, 0), 0);
-        Due.refused(x, "top of row -1", NO_PLACE, () -> x.top(-1, 0, 0));
-        Due.refused(x, "top of row k", NO_PLACE, () -> x.top(2, 0, 0));
-        Due.refused(x, "top of column -1", NO_PLACE, () -> x.top(0, -1, 0));
-        Due.refused(x, "top of column c", NO_PLACE, () -> x.top(0, 3, 0));
-        Due.refused(x, "top of 10", NO_VALUE, () -> x.top(0, 0, 10));
-        Due.refused(x, "top of -10", NO_VALUE, () -> x.top(0, 0, -10));
-        Due.refused(x, "top of both: the place is named first", NO_PLACE, () -> x.top(0, 3, -10));
-        Due.refused(x, "top far out", NO_PLACE, () -> x.top(Integer.MIN_VALUE, Integer.MAX_VALUE, 0));
+        Due.refused(x, "top of row -1", Meshes.NO_PLACE, () -> x.top(-1, 0, 0));
+        Due.refused(x, "top of row k", Meshes.NO_PLACE, () -> x.top(2, 0, 0));
+        Due.refused(x, "top of column -1", Meshes.NO_PLACE, () -> x.top(0, -1, 0));
+        Due.refused(x, "top of column c", Meshes.NO_PLACE, () -> x.top(0, 3, 0));
+        Due.refused(x, "top of 10", Meshes.NO_VALUE, () -> x.top(0, 0, 10));
+        Due.refused(x, "top of -10", Meshes.NO_VALUE, () -> x.top(0, 0, -10));
+        Due.refused(x, "top of both: the place is named first", Meshes.NO_PLACE, () -> x.top(0, 3, -10));
+        Due.refused(x, "top far out", Meshes.NO_PLACE, () -> x.top(Integer.MIN_VALUE, Integer.MAX_VALUE, 0));
         x.checked(true);
-        Due.refused(x, "top of the column of sums", NO_PLACE, () -> x.top(0, 3, 0));
+        Due.refused(x, "top of the column of sums", Meshes.NO_PLACE, () -> x.top(0, 3, 0));
     }
 
     private static void promise5Kind() {
@@ -224,22 +136,23 @@ public final class PromisesTest {
         x.checked(true);
         x.kind(2);
         Due.same("by 2 it is not checked", x.mesh(4), 0);
-        Due.refused(x, "kind(-1)", NO_VALUE, () -> x.kind(-1));
-        Due.refused(x, "kind(3)", NO_VALUE, () -> x.kind(3));
+        Due.refused(x, "kind(-1)", Meshes.NO_VALUE, () -> x.kind(-1));
+        Due.refused(x, "kind(3)", Meshes.NO_VALUE, () -> x.kind(3));
     }
 
     private static void promise6Checked() {
-        Pulsemesh x = twoByTwo();
+        Pulsemesh x = Meshes.twoByTwo();
         Due.same("checked(true)", x.checked(true), false);
         Due.same("checked(true) again", x.checked(true), true);
         Due.same("checked(false)", x.checked(false), true);
         Due.same("checked(false) again", x.checked(false), false);
         for (int kind = 1; kind <= 2; kind++) {
             x.kind(kind);
-            Due.refused(x, "checked by kind " + kind, NOT_NOW, () -> x.checked(true));
+            Due.refused(x, "checked by kind " + kind, Meshes.NOT_NOW, () -> x.checked(true));
             Due.same("not checked by kind " + kind, x.checked(false), false);
         }
-        dueResults("checked", twoByTwoDone(true), new int[][] {{19, 22, 41}, {43, 50, 93}, {62, 72, 134}});
+        int[][] wants = {{19, 22, 41}, {43, 50, 93}, {62, 72, 134}};
+        Meshes.dueResults("checked", Meshes.twoByTwoDone(true), wants);
     }
 
     private static void promise7Broken() {
@@ -255,16 +168,16 @@ public final class PromisesTest {
         x.broken(4, 4, false);
         x.broken(4, 4, true);
         Due.same("it was whole in between, so it is not known", x.ofCell(4, 4, 0), 1);
-        Due.refused(x, "row -1", NO_PLACE, () -> x.broken(-1, 0, true));
-        Due.refused(x, "row 5", NO_PLACE, () -> x.broken(5, 0, true));
-        Due.refused(x, "column -1", NO_PLACE, () -> x.broken(0, -1, false));
-        Due.refused(x, "column 5", NO_PLACE, () -> x.broken(0, 5, false));
-        breakAll(x);
+        Due.refused(x, "row -1", Meshes.NO_PLACE, () -> x.broken(-1, 0, true));
+        Due.refused(x, "row 5", Meshes.NO_PLACE, () -> x.broken(5, 0, true));
+        Due.refused(x, "column -1", Meshes.NO_PLACE, () -> x.broken(0, -1, false));
+        Due.refused(x, "column 5", Meshes.NO_PLACE, () -> x.broken(0, 5, false));
+        Meshes.breakAll(x);
         Due.same("all are broken", x.mesh(7), 25);
     }
 
     private static void promise8Test() {
-        Pulsemesh x = twoByTwo();
+        Pulsemesh x = Meshes.twoByTwo();
         Due.same("test of whole cells", x.test(), 0);
         x.broken(2, 3, true);
         x.broken(3, 2, true);
@@ -274,56 +187,56 @@ public final class PromisesTest {
         Due.same("test of one more", x.test(), 1);
         Due.same("known", x.mesh(8), 3);
         x.start();
-        Due.refused(x, "test while a work runs", NOT_NOW, () -> x.test());
+        Due.refused(x, "test while a work runs", Meshes.NOT_NOW, () -> x.test());
         x.beat(300);
         Due.same("test once it ended", x.test(), 0);
     }
 
     private static void promise9Start() {
-        Pulsemesh x = twoByTwo();
+        Pulsemesh x = Meshes.twoByTwo();
         Due.same("start()", x.start(), 5);
-        Due.refused(x, "start while one runs", NOT_NOW, () -> x.start());
+        Due.refused(x, "start while one runs", Meshes.NOT_NOW, () -> x.start());
         x.beat(5);
         Due.same("start once it ended", x.start(), 5);
         x.beat(5);
         x.checked(true);
         Due.same("start of a checked one", x.start(), 7);
         x.beat(7);
-        breakAll(x);
+        Meshes.breakAll(x);
         Due.same("broken cells that are not known are taken", x.start(), 7);
         x.beat(7);
         x.test();
-        Due.refused(x, "start without a layout", NOT_NOW, () -> x.start());
+        Due.refused(x, "start without a layout", Meshes.NOT_NOW, () -> x.start());
         x.broken(3, 3, false);
         // 9 tiles of one cell, 2 steps: 1 + 1 + 2 - 1 beats each.
         Due.same("start on one cell", x.start(), 27);
-        dueRows("one cell", x, "xxxxx", "xxxxx", "xxxxx", "xxxox", "xxxxx");
+        Meshes.dueRows("one cell", x, "xxxxx", "xxxxx", "xxxxx", "xxxox", "xxxxx");
     }
 
     private static void promise10Beat() {
-        Pulsemesh x = twoByTwo();
-        Due.refused(x, "beat without a work", NOT_NOW, () -> x.beat(1));
-        Due.refused(x, "beat(0) without a work", NO_VALUE, () -> x.beat(0));
+        Pulsemesh x = Meshes.twoByTwo();
+        Due.refused(x, "beat without a work", Meshes.NOT_NOW, () -> x.beat(1));
+        Due.refused(x, "beat(0) without a work", Meshes.NO_VALUE, () -> x.beat(0));
         x.start();
-        Due.refused(x, "beat(0)", NO_VALUE, () -> x.beat(0));
-        Due.refused(x, "beat(-1)", NO_VALUE, () -> x.beat(-1));
-        Due.refused(x, "beat(301)", NO_VALUE, () -> x.beat(301));
+        Due.refused(x, "beat(0)", Meshes.NO_VALUE, () -> x.beat(0));
+        Due.refused(x, "beat(-1)", Meshes.NO_VALUE, () -> x.beat(-1));
+        Due.refused(x, "beat(301)", Meshes.NO_VALUE, () -> x.beat(301));
         Due.same("beat(2)", x.beat(2), 3);
-        tellLeft(x, new int[][] {{-1, -1}, {-1, -1}});
-        tellTop(x, new int[][] {{-1, -1}, {-1, -1}});
+        Meshes.tellLeft(x, new int[][] {{-1, -1}, {-1, -1}});
+        Meshes.tellTop(x, new int[][] {{-1, -1}, {-1, -1}});
         x.kind(1);
         x.shape(1, 1, 1);
         Due.same("beat(300)", x.beat(300), 0);
         Due.same("more than are left do nothing", x.mesh(9), 5);
-        dueResults("what is told meanwhile is for the next one", x, new int[][] {{19, 22}, {43, 50}});
-        Due.refused(x, "beat once it ended", NOT_NOW, () -> x.beat(1));
-        Pulsemesh largest = shaped(8, 6, 8);
+        Meshes.dueResults("what is told meanwhile is for the next one", x, new int[][] {{19, 22}, {43, 50}});
+        Due.refused(x, "beat once it ended", Meshes.NOT_NOW, () -> x.beat(1));
+        Pulsemesh largest = Meshes.shaped(8, 6, 8);
         for (int t = 0; t < 6; t++) {
             largest.left(0, t, 9);
             largest.top(t, 7, 9);
         }
         largest.checked(true);
-        breakAll(largest);
+        Meshes.breakAll(largest);
         largest.test();
         largest.broken(4, 0, false);
         Due.same("81 tiles of 7 beats", largest.start(), 567);
@@ -335,7 +248,7 @@ public final class PromisesTest {
 
     /** A cell at i and j takes its first step in beat i + j; tiles of a 6 by 5 work lie on 5 by 5 cells. */
     private static void promise10Askew() {
-        Pulsemesh x = twoByTwo();
+        Pulsemesh x = Meshes.twoByTwo();
         x.start();
         int[][] stepsByBeat = {{0, -1, -1, -1}, {1, 0, 0, -1}, {-1, 1, 1, 0}, {-1, -1, -1, 1}};
         int[][] sumsByBeat = {{5, 0, 0, 0}, {19, 6, 15, 0}, {19, 22, 43, 18}, {19, 22, 43, 50}};
@@ -348,13 +261,13 @@ public final class PromisesTest {
             }
         }
         Due.same("the last beat is left, to drain", x.mesh(12), 1);
-        Due.refused(x, "results ahead of it", NO_PLACE, () -> x.result(0, 0));
+        Due.refused(x, "results ahead of it", Meshes.NO_PLACE, () -> x.result(0, 0));
         x.beat(1);
-        dueResults("drained", x, new int[][] {{19, 22}, {43, 50}});
-        Pulsemesh tiled = shaped(2, 1, 2);
-        tellLeft(tiled, new int[][] {{2}, {3}});
-        tellTop(tiled, new int[][] {{5, 7}});
-        breakAll(tiled);
+        Meshes.dueResults("drained", x, new int[][] {{19, 22}, {43, 50}});
+        Pulsemesh tiled = Meshes.shaped(2, 1, 2);
+        Meshes.tellLeft(tiled, new int[][] {{2}, {3}});
+        Meshes.tellTop(tiled, new int[][] {{5, 7}});
+        Meshes.breakAll(tiled);
         tiled.test();
         tiled.broken(1, 1, false);
         tiled.broken(1, 3, false);
@@ -367,77 +280,77 @@ public final class PromisesTest {
         Due.same("the next tile", tiled.mesh(13), 1);
         Due.same("its sums begin anew", tiled.ofCell(1, 3, 2), 0);
         tiled.beat(3);
-        dueResults("tiled", tiled, new int[][] {{10, 14}, {15, 21}});
+        Meshes.dueResults("tiled", tiled, new int[][] {{10, 14}, {15, 21}});
     }
 
     private static void promise10BrokenCells() {
-        Pulsemesh x = twoByTwo();
+        Pulsemesh x = Meshes.twoByTwo();
         x.broken(0, 1, true);
         x.start();
         x.beat(300);
-        dueResults("two steps of a broken cell", x, new int[][] {{19, 24}, {43, 50}});
+        Meshes.dueResults("two steps of a broken cell", x, new int[][] {{19, 24}, {43, 50}});
         x.start();
         x.broken(0, 1, false);
         x.broken(1, 1, true);
         x.beat(3);
         x.broken(1, 1, false);
         x.beat(2);
-        dueResults("broken for the first of two steps", x, new int[][] {{19, 22}, {43, 51}});
+        Meshes.dueResults("broken for the first of two steps", x, new int[][] {{19, 22}, {43, 51}});
         x.broken(0, 0, true);
         x.kind(1);
         x.start();
         x.beat(300);
         // The least of 6 and 9: 999 to 6, 7 with the one more; then 7 against 9, and one more.
-        dueResults("a broken cell by kind 1", x, new int[][] {{8, 7}, {8, 9}});
+        Meshes.dueResults("a broken cell by kind 1", x, new int[][] {{8, 7}, {8, 9}});
         x.kind(2);
         x.start();
         x.beat(300);
         // The greatest of 1 and 2: -999 to 1, 2; then 2 against 2, 3.
-        dueResults("a broken cell by kind 2", x, new int[][] {{3, 2}, {4, 4}});
+        Meshes.dueResults("a broken cell by kind 2", x, new int[][] {{3, 2}, {4, 4}});
     }
 
     private static void promise11Bend() {
-        Pulsemesh x = twoByTwo();
-        Due.refused(x, "bend without results", NO_PLACE, () -> x.bend(0, 0, 1));
+        Pulsemesh x = Meshes.twoByTwo();
+        Due.refused(x, "bend without results", Meshes.NO_PLACE, () -> x.bend(0, 0, 1));
         x.start();
-        Due.refused(x, "bend while a work runs", NO_PLACE, () -> x.bend(0, 0, 1));
+        Due.refused(x, "bend while a work runs", Meshes.NO_PLACE, () -> x.bend(0, 0, 1));
         x.beat(300);
         Due.same("bend by 3", x.bend(0, 1, 3), 25);
         Due.same("bend by -999", x.bend(0, 1, -999), -974);
         Due.same("bend by 999", x.bend(0, 1, 999), 25);
         Due.same("bend by 0", x.bend(0, 1, 0), 25);
-        dueResults("bent", x, new int[][] {{19, 25}, {43, 50}});
-        Due.refused(x, "bend of row -1", NO_PLACE, () -> x.bend(-1, 0, 1));
-        Due.refused(x, "bend of row 2", NO_PLACE, () -> x.bend(2, 0, 1));
-        Due.refused(x, "bend of column -1", NO_PLACE, () -> x.bend(0, -1, 1));
-        Due.refused(x, "bend of column 2", NO_PLACE, () -> x.bend(0, 2, 1));
-        Due.refused(x, "bend by 1000", NO_VALUE, () -> x.bend(0, 0, 1000));
-        Due.refused(x, "bend by -1000", NO_VALUE, () -> x.bend(0, 0, -1000));
-        Due.refused(x, "bend of both: the place is named first", NO_PLACE, () -> x.bend(2, 0, 1000));
+        Meshes.dueResults("bent", x, new int[][] {{19, 25}, {43, 50}});
+        Due.refused(x, "bend of row -1", Meshes.NO_PLACE, () -> x.bend(-1, 0, 1));
+        Due.refused(x, "bend of row 2", Meshes.NO_PLACE, () -> x.bend(2, 0, 1));
+        Due.refused(x, "bend of column -1", Meshes.NO_PLACE, () -> x.bend(0, -1, 1));
+        Due.refused(x, "bend of column 2", Meshes.NO_PLACE, () -> x.bend(0, 2, 1));
+        Due.refused(x, "bend by 1000", Meshes.NO_VALUE, () -> x.bend(0, 0, 1000));
+        Due.refused(x, "bend by -1000", Meshes.NO_VALUE, () -> x.bend(0, 0, -1000));
+        Due.refused(x, "bend of both: the place is named first", Meshes.NO_PLACE, () -> x.bend(2, 0, 1000));
         x.start();
         x.beat(300);
-        dueResults("the next ones are not bent", x, new int[][] {{19, 22}, {43, 50}});
+        Meshes.dueResults("the next ones are not bent", x, new int[][] {{19, 22}, {43, 50}});
     }
 
     private static void promise12Check() {
-        Pulsemesh x = twoByTwo();
-        Due.refused(x, "check without results", NOT_NOW, () -> x.check());
+        Pulsemesh x = Meshes.twoByTwo();
+        Due.refused(x, "check without results", Meshes.NOT_NOW, () -> x.check());
         x.checked(true);
         x.start();
-        Due.refused(x, "check while it runs", NOT_NOW, () -> x.check());
+        Due.refused(x, "check while it runs", Meshes.NOT_NOW, () -> x.check());
         x.beat(300);
         x.checked(false);
         Due.same("all right", x.check(), 0);
         x.checked(true);
         x.start();
-        Due.refused(x, "check while the next one runs", NOT_NOW, () -> x.check());
+        Due.refused(x, "check while the next one runs", Meshes.NOT_NOW, () -> x.check());
         x.checked(false);
         x.beat(300);
         Due.same("what was told at the start counts", x.check(), 0);
         x.start();
         x.beat(300);
         x.checked(true);
-        Due.refused(x, "check of no checked work", NOT_NOW, () -> x.check());
+        Due.refused(x, "check of no checked work", Meshes.NOT_NOW, () -> x.check());
     }
 
     private static void promise12Mending() {
@@ -446,10 +359,10 @@ public final class PromisesTest {
             int row = cell / 3;
             int column = cell % 3;
             for (int more = -999; more <= 999; more += 333) {
-                Pulsemesh x = twoByTwoDone(true);
+                Pulsemesh x = Meshes.twoByTwoDone(true);
                 x.bend(row, column, more);
                 Due.same("one error of " + more + " in " + cell, x.check(), more == 0 ? 0 : 1);
-                dueResults("mended " + cell, x, right);
+                Meshes.dueResults("mended " + cell, x, right);
                 Due.same("then it is right", x.check(), 0);
             }
         }
@@ -460,9 +373,9 @@ public final class PromisesTest {
         // Just one row is wrong, or one column, but not both; a value for one place would set two lines right.
         dueBeyondMending("one row, three columns", new int[][] {{0, 0, 1}, {0, 1, -1}, {0, 2, 1}});
         dueBeyondMending("three rows, one column", new int[][] {{0, 0, 1}, {1, 0, -1}, {2, 0, 1}});
-        // Row 1 and column 1 alone are wrong, by unlike sums: no value of (1, 1) mends both.
+        // Row 1 is wrong by 2, column 1 by 3 and the last column by 5.
         dueBeyondMending("unlike sums", new int[][] {{1, 0, 2}, {2, 0, 2}, {2, 1, 3}, {2, 2, 5}});
-        Pulsemesh x = twoByTwoDone(true);
+        Pulsemesh x = Meshes.twoByTwoDone(true);
         x.bend(0, 0, 4);
         x.bend(0, 1, -4);
         x.bend(1, 0, -4);
@@ -471,7 +384,7 @@ public final class PromisesTest {
     }
 
     private static void dueBeyondMending(String what, int[][] bends) {
-        Pulsemesh x = twoByTwoDone(true);
+        Pulsemesh x = Meshes.twoByTwoDone(true);
         for (int[] bend : bends) {
             x.bend(bend[0], bend[1], bend[2]);
         }
@@ -481,7 +394,7 @@ public final class PromisesTest {
     }
 
     private static void promise13Mesh() {
-        Pulsemesh x = shaped(3, 2, 6);
+        Pulsemesh x = Meshes.shaped(3, 2, 6);
         x.left(0, 0, 1);
         x.top(0, 0, 1);
         x.checked(true);
@@ -489,29 +402,29 @@ public final class PromisesTest {
         x.broken(4, 1, true);
         x.test();
         x.broken(4, 2, true);
-        dueMesh("told", x, 3, 2, 6, 0, 1, 1, 2, 3, 2, 0, 0, 0, 0, -1, 0, 0);
+        Meshes.dueMesh("told", x, 3, 2, 6, 0, 1, 1, 2, 3, 2, 0, 0, 0, 0, -1, 0, 0);
         // 4 rows on 4 rows, 7 columns on 4 columns: tiles of 4 by 4 and 4 by 3, 8 and 7 beats.
         Due.same("start of two tiles", x.start(), 15);
-        dueBest("two tiles", x, 15, 15, 15, 2, 15);
-        dueMesh("started", x, 3, 2, 6, 0, 1, 1, 2, 3, 2, 0, 1, 1, 15, 0, 0, 0);
+        Meshes.dueBest("two tiles", x, 15, 15, 15, 2, 15);
+        Meshes.dueMesh("started", x, 3, 2, 6, 0, 1, 1, 2, 3, 2, 0, 1, 1, 15, 0, 0, 0);
         x.beat(7);
-        dueMesh("one beat ahead of the next tile", x, 3, 2, 6, 0, 1, 1, 2, 3, 2, 7, 1, 1, 8, 0, 0, 0);
+        Meshes.dueMesh("one beat ahead of the next tile", x, 3, 2, 6, 0, 1, 1, 2, 3, 2, 7, 1, 1, 8, 0, 0, 0);
         x.beat(1);
-        dueMesh("in the next tile", x, 3, 2, 6, 0, 1, 1, 2, 3, 2, 8, 1, 1, 7, 1, 0, 0);
+        Meshes.dueMesh("in the next tile", x, 3, 2, 6, 0, 1, 1, 2, 3, 2, 8, 1, 1, 7, 1, 0, 0);
         x.beat(6);
-        dueMesh("one beat ahead of the end", x, 3, 2, 6, 0, 1, 1, 2, 3, 2, 14, 1, 1, 1, 1, 0, 0);
+        Meshes.dueMesh("one beat ahead of the end", x, 3, 2, 6, 0, 1, 1, 2, 3, 2, 14, 1, 1, 1, 1, 0, 0);
         x.beat(1);
-        dueMesh("ended", x, 3, 2, 6, 0, 1, 1, 2, 3, 2, 15, 1, 0, 0, -1, 4, 7);
+        Meshes.dueMesh("ended", x, 3, 2, 6, 0, 1, 1, 2, 3, 2, 15, 1, 0, 0, -1, 4, 7);
         x.kind(2);
         x.shape(1, 5, 1);
         x.start();
-        dueMesh("the next one", x, 1, 5, 1, 2, 0, 5, 0, 3, 2, 15, 2, 1, 6, 0, 0, 0);
-        Due.refused(x, "mesh(-1)", NO_VALUE, () -> x.mesh(-1));
-        Due.refused(x, "mesh(16)", NO_VALUE, () -> x.mesh(16));
+        Meshes.dueMesh("the next one", x, 1, 5, 1, 2, 0, 5, 0, 3, 2, 15, 2, 1, 6, 0, 0, 0);
+        Due.refused(x, "mesh(-1)", Meshes.NO_VALUE, () -> x.mesh(-1));
+        Due.refused(x, "mesh(16)", Meshes.NO_VALUE, () -> x.mesh(16));
     }
 
     private static void promise13Skipped() {
-        Pulsemesh x = shaped(2, 4, 3);
+        Pulsemesh x = Meshes.shaped(2, 4, 3);
         Due.same("all noughts: the last one is not skipped", x.mesh(6), 7);
         Due.same("all noughts: one step", x.mesh(5), 1);
         x.left(0, 1, 4);
@@ -524,9 +437,9 @@ public final class PromisesTest {
         Due.same("two steps", x.mesh(5), 2);
         x.start();
         x.beat(300);
-        dueResults("skipped ones are nought", x, new int[][] {{0, 0, 20}, {1, 0, 0}});
-        tellLeft(x, new int[][] {{1, 1, 0, 1}, {1, 1, 0, 1}});
-        tellTop(x, new int[][] {{0, 0, 0}, {1, 1, 1}, {1, 1, 1}, {1, 1, 1}});
+        Meshes.dueResults("skipped ones are nought", x, new int[][] {{0, 0, 20}, {1, 0, 0}});
+        Meshes.tellLeft(x, new int[][] {{1, 1, 0, 1}, {1, 1, 0, 1}});
+        Meshes.tellTop(x, new int[][] {{0, 0, 0}, {1, 1, 1}, {1, 1, 1}, {1, 1, 1}});
         Due.same("t 0 for B, t 2 for A", x.mesh(6), 5);
         x.kind(1);
         Due.same("none is skipped by kind 1", x.mesh(6), 0);
@@ -535,14 +448,14 @@ public final class PromisesTest {
         Due.same("none is skipped by kind 2", x.mesh(6), 0);
         x.kind(0);
         x.shape(2, 2, 2);
-        tellLeft(x, new int[][] {{1, 0}, {-1, 0}});
-        tellTop(x, new int[][] {{1, 1}, {0, 0}});
+        Meshes.tellLeft(x, new int[][] {{1, 0}, {-1, 0}});
+        Meshes.tellTop(x, new int[][] {{1, 1}, {0, 0}});
         x.checked(true);
         Due.same("a sum of nought is no column of noughts", x.mesh(6), 2);
     }
 
     private static void promise14OfCell() {
-        Pulsemesh x = twoByTwo();
+        Pulsemesh x = Meshes.twoByTwo();
         x.broken(3, 1, true);
         x.broken(1, 3, true);
         Due.same("broken", x.ofCell(3, 1, 0), 1);
@@ -567,27 +480,27 @@ public final class PromisesTest {
             Due.same("no tile, no sum", x.ofCell(1, 1, 2), 0);
             Due.same("no tile, no step", x.ofCell(1, 1, 3), -1);
         }
-        Due.refused(x, "row -1", NO_PLACE, () -> x.ofCell(-1, 0, 0));
-        Due.refused(x, "row 5", NO_PLACE, () -> x.ofCell(5, 0, 0));
-        Due.refused(x, "column -1", NO_PLACE, () -> x.ofCell(0, -1, 0));
-        Due.refused(x, "column 5", NO_PLACE, () -> x.ofCell(0, 5, 0));
-        Due.refused(x, "what -1", NO_VALUE, () -> x.ofCell(0, 0, -1));
-        Due.refused(x, "what 4", NO_VALUE, () -> x.ofCell(0, 0, 4));
-        Due.refused(x, "both: the place is named first", NO_PLACE, () -> x.ofCell(0, 5, 4));
+        Due.refused(x, "row -1", Meshes.NO_PLACE, () -> x.ofCell(-1, 0, 0));
+        Due.refused(x, "row 5", Meshes.NO_PLACE, () -> x.ofCell(5, 0, 0));
+        Due.refused(x, "column -1", Meshes.NO_PLACE, () -> x.ofCell(0, -1, 0));
+        Due.refused(x, "column 5", Meshes.NO_PLACE, () -> x.ofCell(0, 5, 0));
+        Due.refused(x, "what -1", Meshes.NO_VALUE, () -> x.ofCell(0, 0, -1));
+        Due.refused(x, "what 4", Meshes.NO_VALUE, () -> x.ofCell(0, 0, 4));
+        Due.refused(x, "both: the place is named first", Meshes.NO_PLACE, () -> x.ofCell(0, 5, 4));
         dueSmallerTile();
     }
 
     /** In a tile with fewer rows or columns than the layout the other cells rest. */
     private static void dueSmallerTile() {
-        Pulsemesh x = shaped(1, 1, 6);
+        Pulsemesh x = Meshes.shaped(1, 1, 6);
         x.kind(1);
         x.broken(0, 1, true);
         x.test();
         // Three columns twice, as five would: 0, 2 and 3 of row 0 come ahead of 0, 1 and 2 of row 1.
-        dueBest("three columns twice", x, 8, 1, 13, 2, 8);
+        Meshes.dueBest("three columns twice", x, 8, 1, 13, 2, 8);
         x.broken(0, 1, false);
         x.shape(1, 1, 7);
-        dueBest("four columns twice", x, 9, 1, 15, 2, 9);
+        Meshes.dueBest("four columns twice", x, 9, 1, 15, 2, 9);
         x.start();
         Due.same("the fourth column works first", x.ofCell(0, 3, 2), 999);
         x.beat(5);
@@ -599,7 +512,7 @@ public final class PromisesTest {
         Due.same("use of the third column", x.ofCell(0, 2, 1), 2);
         Due.same("use of the fourth column", x.ofCell(0, 3, 1), 1);
         x.shape(7, 1, 1);
-        tellLeft(x, new int[][] {{1}, {2}, {3}, {4}, {5}, {6}, {7}});
+        Meshes.tellLeft(x, new int[][] {{1}, {2}, {3}, {4}, {5}, {6}, {7}});
         x.kind(2);
         x.top(0, 0, 5);
         Due.same("four rows, then three", x.start(), 9);
@@ -607,76 +520,76 @@ public final class PromisesTest {
         Due.same("the third row works", x.ofCell(2, 0, 2), -999);
         Due.same("the fourth row rests", x.ofCell(3, 0, 2), 0);
         x.beat(4);
-        dueResults("four rows, then three", x, new int[][] {{1}, {2}, {3}, {4}, {5}, {5}, {5}});
+        Meshes.dueResults("four rows, then three", x, new int[][] {{1}, {2}, {3}, {4}, {5}, {5}, {5}});
         Due.same("use of the third row", x.ofCell(2, 0, 1), 2);
         Due.same("use of the fourth row", x.ofCell(3, 0, 1), 1);
     }
 
     private static void promise15Result() {
-        Pulsemesh x = twoByTwo();
-        Due.refused(x, "no results yet", NO_PLACE, () -> x.result(0, 0));
+        Pulsemesh x = Meshes.twoByTwo();
+        Due.refused(x, "no results yet", Meshes.NO_PLACE, () -> x.result(0, 0));
         x.start();
         x.beat(4);
-        Due.refused(x, "none while it runs", NO_PLACE, () -> x.result(0, 0));
+        Due.refused(x, "none while it runs", Meshes.NO_PLACE, () -> x.result(0, 0));
         x.beat(1);
-        dueResults("ended", x, new int[][] {{19, 22}, {43, 50}});
+        Meshes.dueResults("ended", x, new int[][] {{19, 22}, {43, 50}});
         x.shape(8, 1, 8);
-        dueResults("shape does nothing to them", x, new int[][] {{19, 22}, {43, 50}});
-        Due.refused(x, "row -1", NO_PLACE, () -> x.result(-1, 0));
-        Due.refused(x, "row 2", NO_PLACE, () -> x.result(2, 0));
-        Due.refused(x, "column -1", NO_PLACE, () -> x.result(0, -1));
-        Due.refused(x, "column 2", NO_PLACE, () -> x.result(0, 2));
+        Meshes.dueResults("shape does nothing to them", x, new int[][] {{19, 22}, {43, 50}});
+        Due.refused(x, "row -1", Meshes.NO_PLACE, () -> x.result(-1, 0));
+        Due.refused(x, "row 2", Meshes.NO_PLACE, () -> x.result(2, 0));
+        Due.refused(x, "column -1", Meshes.NO_PLACE, () -> x.result(0, -1));
+        Due.refused(x, "column 2", Meshes.NO_PLACE, () -> x.result(0, 2));
         x.start();
-        Due.refused(x, "none while the next one runs", NO_PLACE, () -> x.result(0, 0));
+        Due.refused(x, "none while the next one runs", Meshes.NO_PLACE, () -> x.result(0, 0));
     }
 
     private static void promise16Plain() {
-        Pulsemesh x = twoByTwo();
-        duePlain("kind 0", x, new int[][] {{19, 22}, {43, 50}});
+        Pulsemesh x = Meshes.twoByTwo();
+        Meshes.duePlain("kind 0", x, new int[][] {{19, 22}, {43, 50}});
         x.checked(true);
-        duePlain("checked", x, new int[][] {{19, 22, 41}, {43, 50, 93}, {62, 72, 134}});
+        Meshes.duePlain("checked", x, new int[][] {{19, 22, 41}, {43, 50, 93}, {62, 72, 134}});
         x.kind(1);
-        duePlain("kind 1", x, new int[][] {{6, 7}, {8, 9}});
+        Meshes.duePlain("kind 1", x, new int[][] {{6, 7}, {8, 9}});
         x.kind(2);
-        duePlain("kind 2", x, new int[][] {{2, 2}, {4, 4}});
+        Meshes.duePlain("kind 2", x, new int[][] {{2, 2}, {4, 4}});
         x.shape(1, 3, 2);
-        tellLeft(x, new int[][] {{-9, 9, 0}});
-        tellTop(x, new int[][] {{-9, 9}, {-8, 9}, {-9, -3}});
-        duePlain("kind 2 with less than nought", x, new int[][] {{-8, 9}});
+        Meshes.tellLeft(x, new int[][] {{-9, 9, 0}});
+        Meshes.tellTop(x, new int[][] {{-9, 9}, {-8, 9}, {-9, -3}});
+        Meshes.duePlain("kind 2 with less than nought", x, new int[][] {{-8, 9}});
         x.kind(1);
-        duePlain("kind 1 with less than nought", x, new int[][] {{-18, -3}});
+        Meshes.duePlain("kind 1 with less than nought", x, new int[][] {{-18, -3}});
         x.kind(0);
-        duePlain("kind 0 with less than nought", x, new int[][] {{9, 0}});
+        Meshes.duePlain("kind 0 with less than nought", x, new int[][] {{9, 0}});
         x.broken(0, 0, true);
         x.start();
         x.top(0, 0, 0);
-        duePlain("as they are told, by whole cells", x, new int[][] {{-72, 0}});
-        Due.refused(x, "row -1", NO_PLACE, () -> x.plain(-1, 0));
-        Due.refused(x, "column -1", NO_PLACE, () -> x.plain(0, -1));
+        Meshes.duePlain("as they are told, by whole cells", x, new int[][] {{-72, 0}});
+        Due.refused(x, "row -1", Meshes.NO_PLACE, () -> x.plain(-1, 0));
+        Due.refused(x, "column -1", Meshes.NO_PLACE, () -> x.plain(0, -1));
     }
 
     private static void promise17Row() {
-        Pulsemesh x = twoByTwo();
+        Pulsemesh x = Meshes.twoByTwo();
         x.broken(0, 0, true);
         x.broken(2, 2, true);
         x.test();
         x.broken(0, 4, true);
         x.broken(1, 2, true);
-        dueRows("no work", x, "x...?", "..?..", "..x..", ".....", ".....");
+        Meshes.dueRows("no work", x, "x...?", "..?..", "..x..", ".....", ".....");
         x.start();
-        dueRows("a work on rows 0 and 1, columns 1 and 2", x, "xoo.?", ".o?..", "..x..", ".....", ".....");
+        Meshes.dueRows("a work on rows 0 and 1, columns 1 and 2", x, "xoo.?", ".o?..", "..x..", ".....", ".....");
         x.broken(0, 1, true);
         x.broken(0, 0, false);
         x.beat(4);
-        dueRows("broken meanwhile", x, ".?o.?", ".o?..", "..x..", ".....", ".....");
+        Meshes.dueRows("broken meanwhile", x, ".?o.?", ".o?..", "..x..", ".....", ".....");
         x.beat(1);
-        dueRows("ended", x, ".?..?", "..?..", "..x..", ".....", ".....");
-        Due.refused(x, "row(-1)", NO_PLACE, () -> x.row(-1));
-        Due.refused(x, "row(5)", NO_PLACE, () -> x.row(5));
+        Meshes.dueRows("ended", x, ".?..?", "..?..", "..x..", ".....", ".....");
+        Due.refused(x, "row(-1)", Meshes.NO_PLACE, () -> x.row(-1));
+        Due.refused(x, "row(5)", Meshes.NO_PLACE, () -> x.row(5));
     }
 
     private static void promise18Beats() {
-        Pulsemesh x = shaped(8, 6, 8);
+        Pulsemesh x = Meshes.shaped(8, 6, 8);
         x.kind(1);
         Due.same("all cells", x.beats(31, 31), 52);
         Due.same("one cell", x.beats(16, 1), 448);
@@ -693,46 +606,46 @@ public final class PromisesTest {
         Due.same("known among others", x.beats(31, 8), -1);
         Due.same("beside it", x.beats(4, 23), 9 * 3 + 9 * 9);
         Due.same("below it", x.beats(27, 31), 36 + 9);
-        Due.refused(x, "rows of 0", NO_VALUE, () -> x.beats(0, 1));
-        Due.refused(x, "rows of 32", NO_VALUE, () -> x.beats(32, 1));
-        Due.refused(x, "columns of 0", NO_VALUE, () -> x.beats(1, 0));
-        Due.refused(x, "columns of 32", NO_VALUE, () -> x.beats(1, 32));
-        Due.refused(x, "rows of -1", NO_VALUE, () -> x.beats(-1, 1));
+        Due.refused(x, "rows of 0", Meshes.NO_VALUE, () -> x.beats(0, 1));
+        Due.refused(x, "rows of 32", Meshes.NO_VALUE, () -> x.beats(32, 1));
+        Due.refused(x, "columns of 0", Meshes.NO_VALUE, () -> x.beats(1, 0));
+        Due.refused(x, "columns of 32", Meshes.NO_VALUE, () -> x.beats(1, 32));
+        Due.refused(x, "rows of -1", Meshes.NO_VALUE, () -> x.beats(-1, 1));
     }
 
     private static void promise19Best() {
-        Pulsemesh x = twoByTwo();
-        dueBest("two by two", x, 5, 3, 3, 1, 8);
+        Pulsemesh x = Meshes.twoByTwo();
+        Meshes.dueBest("two by two", x, 5, 3, 3, 1, 8);
         x.shape(8, 2, 1);
-        dueBest("8 rows: 4 of the mesh twice", x, 10, 15, 1, 2, 10);
+        Meshes.dueBest("8 rows: 4 of the mesh twice", x, 10, 15, 1, 2, 10);
         x.kind(2);
-        dueBest("of two steps", x, 12, 15, 1, 2, 20);
+        Meshes.dueBest("of two steps", x, 12, 15, 1, 2, 20);
         x.kind(0);
         x.shape(8, 1, 8);
         x.checked(true);
-        dueBest("9 rows and columns need all of the mesh", x, 36, 31, 31, 4, 36);
+        Meshes.dueBest("9 rows and columns need all of the mesh", x, 36, 31, 31, 4, 36);
         x.checked(false);
         x.shape(3, 1, 3);
         x.broken(1, 1, true);
         x.test();
-        dueBest("the smallest set of rows", x, 6, 7, 13, 1, 6);
+        Meshes.dueBest("the smallest set of rows", x, 6, 7, 13, 1, 6);
         x.broken(0, 0, true);
         x.test();
-        dueBest("the smallest set of rows round two", x, 6, 7, 28, 1, 6);
+        Meshes.dueBest("the smallest set of rows round two", x, 6, 7, 28, 1, 6);
         x.checked(true);
         // Without row 1 and column 0, ahead of without row 0 and column 1.
-        dueBest("with the sums", x, 8, 29, 30, 1, 8);
-        breakAll(x);
+        Meshes.dueBest("with the sums", x, 8, 29, 30, 1, 8);
+        Meshes.breakAll(x);
         x.test();
-        dueBest("no layout", x, -1, -1, -1, -1, -1);
+        Meshes.dueBest("no layout", x, -1, -1, -1, -1, -1);
         x.broken(4, 2, false);
-        dueBest("one cell", x, 32, 16, 4, 16, 32);
-        Due.refused(x, "best(-1)", NO_VALUE, () -> x.best(-1));
-        Due.refused(x, "best(5)", NO_VALUE, () -> x.best(5));
+        Meshes.dueBest("one cell", x, 32, 16, 4, 16, 32);
+        Due.refused(x, "best(-1)", Meshes.NO_VALUE, () -> x.best(-1));
+        Due.refused(x, "best(5)", Meshes.NO_VALUE, () -> x.best(5));
     }
 
     private static void promise20Saved() {
-        Pulsemesh x = twoByTwo();
+        Pulsemesh x = Meshes.twoByTwo();
         Due.same("nothing is skipped", x.saved(), 0);
         x.shape(8, 6, 8);
         Due.same("five of six, four tiles", x.saved(), 20);
@@ -745,7 +658,7 @@ public final class PromisesTest {
         Due.same("by kind 1", x.saved(), 0);
         x.kind(0);
         x.checked(true);
-        breakAll(x);
+        Meshes.breakAll(x);
         x.test();
         Due.same("no layout", x.saved(), 0);
         x.broken(0, 4, false);
@@ -753,7 +666,7 @@ public final class PromisesTest {
     }
 
     private static void promise21IsSound() {
-        Pulsemesh x = twoByTwo();
+        Pulsemesh x = Meshes.twoByTwo();
         x.checked(true);
         x.broken(1, 1, true);
         for (int left = x.start(); left > 0; left = x.beat(1)) {
@@ -761,7 +674,7 @@ public final class PromisesTest {
             x.broken(0, 0, left % 2 == 0);
         }
         Due.same("sound once it ended", x.isSound(), true);
-        breakAll(x);
+        Meshes.breakAll(x);
         x.test();
         Due.same("sound without a layout", x.isSound(), true);
         x.broken(1, 2, false);
@@ -771,25 +684,31 @@ public final class PromisesTest {
     }
 
     private static void promise22Digest() {
-        Pulsemesh x = new Pulsemesh();
-        dueDigest("new", x);
-        x = twoByTwo();
-        x.checked(true);
-        x.broken(1, 1, true);
-        dueDigest("told", x);
-        x.start();
-        x.beat(3);
-        dueDigest("running", x);
-        x.beat(3);
-        dueDigest("nearly done", x);
-        x.beat(1);
-        dueDigest("ended", x);
-        x.test();
-        x.kind(1);
-        dueDigest("the next one", x);
-        breakAll(x);
-        x.test();
-        dueDigest("no layout", x);
+        for (int stage = 0; stage <= 6; stage++) {
+            dueDigest("stage " + stage, atStage(stage));
+        }
+    }
+
+    /** 0 new, 1 told, 2 running, 3 nearly done, 4 ended, 5 the next one is told, 6 there is no layout for it. */
+    private static Pulsemesh atStage(int stage) {
+        Pulsemesh x = stage == 0 ? new Pulsemesh() : Meshes.twoByTwo();
+        if (stage > 0) {
+            x.checked(true);
+            x.broken(1, 1, true);
+        }
+        if (stage > 1) {
+            x.start();
+            x.beat(stage == 2 ? 3 : stage == 3 ? 6 : 7);
+        }
+        if (stage > 4) {
+            x.test();
+            x.kind(1);
+        }
+        if (stage > 5) {
+            Meshes.breakAll(x);
+            x.test();
+        }
+        return x;
     }
 
     private static void dueDigest(String when, Pulsemesh x) {
