@@ -6,36 +6,37 @@ final class BeatsBoundaries {
     }
 
     static void run() {
-        layoutOfThen();
-        workOfThen();
-        kindOfThen();
-        checkedOfThen();
-        tilesInOrder();
-        firstRowsOfLayout();
-        stepsOfEachBeat();
-        stepsThatAreNotSkipped();
-        operandsFromLeftAndAbove();
-        brokenCellsAddOne();
-        brokenMeanwhile();
-        brokenByEachKind();
-        brokenEachTime();
-        firstSums();
-        firstSumsOfEachTile();
-        drainedInTheLastBeat();
-        drainedWholeTiles();
-        useForEver();
-        useOfNoughtsAndRests();
-        workEndsByAllItsBeats();
-        noOtherOneTillThen();
-        toldMeanwhile();
-        startReturnsBeats();
-        startWhileOneRuns();
-        startWithoutLayout();
-        startOnBrokenCells();
-        beatReturnsWhatIsLeft();
-        moreThanAreLeft();
-        beatBounds();
-        beatWithoutWork();
+        Due.each(
+                BeatsBoundaries::layoutOfThen,
+                BeatsBoundaries::workOfThen,
+                BeatsBoundaries::kindOfThen,
+                BeatsBoundaries::checkedOfThen,
+                BeatsBoundaries::tilesInOrder,
+                BeatsBoundaries::firstRowsOfLayout,
+                BeatsBoundaries::stepsOfEachBeat,
+                BeatsBoundaries::stepsThatAreNotSkipped,
+                BeatsBoundaries::operandsFromLeftAndAbove,
+                BeatsBoundaries::brokenCellsAddOne,
+                BeatsBoundaries::brokenMeanwhile,
+                BeatsBoundaries::brokenByEachKind,
+                BeatsBoundaries::brokenEachTime,
+                BeatsBoundaries::firstSums,
+                BeatsBoundaries::firstSumsOfEachTile,
+                BeatsBoundaries::drainedInTheLastBeat,
+                BeatsBoundaries::drainedWholeTiles,
+                BeatsBoundaries::useForEver,
+                BeatsBoundaries::useOfNoughtsAndRests,
+                BeatsBoundaries::workEndsByAllItsBeats,
+                BeatsBoundaries::noOtherOneTillThen,
+                BeatsBoundaries::toldMeanwhile,
+                BeatsBoundaries::startReturnsBeats,
+                BeatsBoundaries::startWhileOneRuns,
+                BeatsBoundaries::startWithoutLayout,
+                BeatsBoundaries::startOnBrokenCells,
+                BeatsBoundaries::beatReturnsWhatIsLeft,
+                BeatsBoundaries::moreThanAreLeft,
+                BeatsBoundaries::beatBounds,
+                BeatsBoundaries::beatWithoutWork);
     }
 
     // ---- 3. Beats

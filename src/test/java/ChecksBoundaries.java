@@ -6,31 +6,32 @@ final class ChecksBoundaries {
     }
 
     static void run() {
-        noneAtFirst();
-        startedLast();
-        noneWhileOneRuns();
-        bentAgainAndAgain();
-        bentForThatWorkAlone();
-        wrongRow();
-        wrongColumn();
-        lastLinesLikeTheOthers();
-        lastLinesAlone();
-        allRight();
-        errorsThatHide();
-        smallerThanTheLast();
-        mendedAnywhere();
-        mendedInTheSmallest();
-        mendedInTheLargest();
-        mendedAfterABrokenCell();
-        otherwiseTwo();
-        valueWhereTheyCross();
-        bendReturns();
-        bendPlaces();
-        bendValues();
-        checkReturns();
-        checkWithoutResults();
-        resultPlaces();
-        resultReturns();
+        Due.each(
+                ChecksBoundaries::noneAtFirst,
+                ChecksBoundaries::startedLast,
+                ChecksBoundaries::noneWhileOneRuns,
+                ChecksBoundaries::bentAgainAndAgain,
+                ChecksBoundaries::bentForThatWorkAlone,
+                ChecksBoundaries::wrongRow,
+                ChecksBoundaries::wrongColumn,
+                ChecksBoundaries::lastLinesLikeTheOthers,
+                ChecksBoundaries::lastLinesAlone,
+                ChecksBoundaries::allRight,
+                ChecksBoundaries::errorsThatHide,
+                ChecksBoundaries::smallerThanTheLast,
+                ChecksBoundaries::mendedAnywhere,
+                ChecksBoundaries::mendedInTheSmallest,
+                ChecksBoundaries::mendedInTheLargest,
+                ChecksBoundaries::mendedAfterABrokenCell,
+                ChecksBoundaries::otherwiseTwo,
+                ChecksBoundaries::valueWhereTheyCross,
+                ChecksBoundaries::bendReturns,
+                ChecksBoundaries::bendPlaces,
+                ChecksBoundaries::bendValues,
+                ChecksBoundaries::checkReturns,
+                ChecksBoundaries::checkWithoutResults,
+                ChecksBoundaries::resultPlaces,
+                ChecksBoundaries::resultReturns);
     }
 
     /** Of one row and one column: A is 3, B is 5, so that all four results are 15. */

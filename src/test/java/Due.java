@@ -22,6 +22,18 @@ final class Due {
         }
     }
 
+    /** Goes through those tests, each of them even if one ahead of it ended by an exception. */
+    static void each(Runnable... tests) {
+        for (Runnable test : tests) {
+            try {
+                test.run();
+            } catch (RuntimeException e) {
+                wrong++;
+                System.out.println(words + "ended by " + e);
+            }
+        }
+    }
+
     /** Each sentence that was quoted has to be looked at by itself. */
     private static void closeWords() {
         if (!words.isEmpty() && looked == lookedAhead) {

@@ -7,38 +7,39 @@ final class MeshBoundaries {
     }
 
     static void run() {
-        everyCell();
-        noneBrokenAtFirst();
-        knownByTestAlone();
-        brokenEverSince();
-        emptySets();
-        crossings();
-        lastOnesLeft();
-        oneMoreIsCut();
-        smallestTile();
-        largestTile();
-        allTilesTogether();
-        fewestBeats();
-        fewestCells();
-        smallestRowsAsNumber();
-        rowsAheadOfColumns();
-        smallestColumns();
-        noLayout();
-        brokenCount();
-        brokenPlaces();
-        testKnowsAll();
-        testCounts();
-        testWhileOneRuns();
-        signsOfRow();
-        rowBounds();
-        beatsOfLayout();
-        beatsBounds();
-        beatsChangesNothing();
-        bestWithoutLayout();
-        bestFed();
-        bestBounds();
-        savedOfNothing();
-        savedOfTheSameLayout();
+        Due.each(
+                MeshBoundaries::everyCell,
+                MeshBoundaries::noneBrokenAtFirst,
+                MeshBoundaries::knownByTestAlone,
+                MeshBoundaries::brokenEverSince,
+                MeshBoundaries::emptySets,
+                MeshBoundaries::crossings,
+                MeshBoundaries::lastOnesLeft,
+                MeshBoundaries::oneMoreIsCut,
+                MeshBoundaries::smallestTile,
+                MeshBoundaries::largestTile,
+                MeshBoundaries::allTilesTogether,
+                MeshBoundaries::fewestBeats,
+                MeshBoundaries::fewestCells,
+                MeshBoundaries::smallestRowsAsNumber,
+                MeshBoundaries::rowsAheadOfColumns,
+                MeshBoundaries::smallestColumns,
+                MeshBoundaries::noLayout,
+                MeshBoundaries::brokenCount,
+                MeshBoundaries::brokenPlaces,
+                MeshBoundaries::testKnowsAll,
+                MeshBoundaries::testCounts,
+                MeshBoundaries::testWhileOneRuns,
+                MeshBoundaries::signsOfRow,
+                MeshBoundaries::rowBounds,
+                MeshBoundaries::beatsOfLayout,
+                MeshBoundaries::beatsBounds,
+                MeshBoundaries::beatsChangesNothing,
+                MeshBoundaries::bestWithoutLayout,
+                MeshBoundaries::bestFed,
+                MeshBoundaries::bestBounds,
+                MeshBoundaries::savedOfNothing,
+                MeshBoundaries::savedOfTheSameLayout);
     }
 
     // ---- 2. The mesh

@@ -13,30 +13,31 @@ final class WholeBoundaries {
     }
 
     static void run() {
-        lastCallOfAll();
-        noneIsMinusOne();
-        setsAsNumbers();
-        refusedCallsChangeNothing();
-        firstNamedIsThrown();
-        meshOfWhatIsTold();
-        meshOfCells();
-        meshEver();
-        meshWithoutAWork();
-        meshOfTiles();
-        meshOfResults();
-        meshReturns();
-        meshBounds();
-        stateOfCell();
-        useOfCell();
-        sumOfCell();
-        stepOfCell();
-        ofCellReturns();
-        ofCellPlaces();
-        ofCellQuestions();
-        soundInEachState();
-        digestOfEachState();
-        digestWrapsAround();
-        digestReturns();
+        Due.each(
+                WholeBoundaries::lastCallOfAll,
+                WholeBoundaries::noneIsMinusOne,
+                WholeBoundaries::setsAsNumbers,
+                WholeBoundaries::refusedCallsChangeNothing,
+                WholeBoundaries::firstNamedIsThrown,
+                WholeBoundaries::meshOfWhatIsTold,
+                WholeBoundaries::meshOfCells,
+                WholeBoundaries::meshEver,
+                WholeBoundaries::meshWithoutAWork,
+                WholeBoundaries::meshOfTiles,
+                WholeBoundaries::meshOfResults,
+                WholeBoundaries::meshReturns,
+                WholeBoundaries::meshBounds,
+                WholeBoundaries::stateOfCell,
+                WholeBoundaries::useOfCell,
+                WholeBoundaries::sumOfCell,
+                WholeBoundaries::stepOfCell,
+                WholeBoundaries::ofCellReturns,
+                WholeBoundaries::ofCellPlaces,
+                WholeBoundaries::ofCellQuestions,
+                WholeBoundaries::soundInEachState,
+                WholeBoundaries::digestOfEachState,
+                WholeBoundaries::digestWrapsAround,
+                WholeBoundaries::digestReturns);
     }
 
     // ---- Description

@@ -6,41 +6,42 @@ final class WorkBoundaries {
     }
 
     static void run() {
-        shapeAtFirst();
-        everyShape();
-        placesOfOperands();
-        operandsAtFirst();
-        outermostOperands();
-        kindAtFirst();
-        firstAndLastTerm();
-        outermostProducts();
-        outermostLeast();
-        outermostGreatest();
-        notCheckedAtFirst();
-        rowOfSums();
-        columnOfSums();
-        nothingSkippedByOtherKinds();
-        oneOperandIsEnough();
-        sumsOfNoughtAreNoNoughts();
-        lastTermIsLeft();
-        stepsOneByOne();
-        newCellsAreWhole();
-        shapeMakesNoughts();
-        shapeCounts();
-        shapeBounds();
-        leftBefore();
-        leftPlaces();
-        leftValues();
-        topBefore();
-        topPlaces();
-        topValues();
-        kindBefore();
-        kindEndsChecked();
-        kindBounds();
-        checkedBefore();
-        checkedBounds();
-        plainOfWhatIsTold();
-        plainPlaces();
+        Due.each(
+                WorkBoundaries::shapeAtFirst,
+                WorkBoundaries::everyShape,
+                WorkBoundaries::placesOfOperands,
+                WorkBoundaries::operandsAtFirst,
+                WorkBoundaries::outermostOperands,
+                WorkBoundaries::kindAtFirst,
+                WorkBoundaries::firstAndLastTerm,
+                WorkBoundaries::outermostProducts,
+                WorkBoundaries::outermostLeast,
+                WorkBoundaries::outermostGreatest,
+                WorkBoundaries::notCheckedAtFirst,
+                WorkBoundaries::rowOfSums,
+                WorkBoundaries::columnOfSums,
+                WorkBoundaries::nothingSkippedByOtherKinds,
+                WorkBoundaries::oneOperandIsEnough,
+                WorkBoundaries::sumsOfNoughtAreNoNoughts,
+                WorkBoundaries::lastTermIsLeft,
+                WorkBoundaries::stepsOneByOne,
+                WorkBoundaries::newCellsAreWhole,
+                WorkBoundaries::shapeMakesNoughts,
+                WorkBoundaries::shapeCounts,
+                WorkBoundaries::shapeBounds,
+                WorkBoundaries::leftBefore,
+                WorkBoundaries::leftPlaces,
+                WorkBoundaries::leftValues,
+                WorkBoundaries::topBefore,
+                WorkBoundaries::topPlaces,
+                WorkBoundaries::topValues,
+                WorkBoundaries::kindBefore,
+                WorkBoundaries::kindEndsChecked,
+                WorkBoundaries::kindBounds,
+                WorkBoundaries::checkedBefore,
+                WorkBoundaries::checkedBounds,
+                WorkBoundaries::plainOfWhatIsTold,
+                WorkBoundaries::plainPlaces);
     }
 
     // ---- 1. The work
